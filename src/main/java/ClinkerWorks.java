@@ -461,8 +461,12 @@ public final class ClinkerWorks {
         return holds ? 1 : 0;
     }
 
+    private static boolean isIndex(int index, int count) {
+        return index >= 0 && index < count;
+    }
+
     private static void needIndex(int index, int count) {
-        if (index < 0 || index >= count) {
+        if (!isIndex(index, count)) {
             throw new IndexOutOfBoundsException("there is no such one");
         }
     }
@@ -478,7 +482,10 @@ public final class ClinkerWorks {
         pile.shareOut(cut);
         cutMix.clear();
         for (int layer = 0; layer < pile.layers; layer++) {
-            cutMix.addStone(blocks[pile.blockOf[layer]], pile.shares[layer]);
+            int block = pile.blockOf[layer];
+            if (isIndex(block, blockCount)) {
+                cutMix.addStone(blocks[block], pile.shares[layer]);
+            }
         }
     }
 
@@ -495,8 +502,12 @@ public final class ClinkerWorks {
         int lacking = most;
         int gain = 0;
         // Each turn sells a LOT out, but for the last one.
-        for (int turn = 0; turn < MOST_LOTS && lacking > 0 && silo.count > 0; turn++) {
-            Lot first = lots[silo.lotAt(0)];
+        for (int turn = 0; turn < MOST_LOTS && lacking > 0; turn++) {
+            int number = silo.lotAt(0);
+            if (!isIndex(number, lotCount)) {
+                break;
+            }
+            Lot first = lots[number];
             int taken = Math.min(lacking, first.sacks);
             gain += taken * first.price();
             first.sacks -= taken;
@@ -514,7 +525,7 @@ public final class ClinkerWorks {
             return;
         }
         claims++;
-        if (broken.sacks > 0) {
+        if (broken.sacks > 0 && isIndex(broken.silo, SILOS)) {
             silos[broken.silo].shut = true;
         }
     }
@@ -579,7 +590,7 @@ public final class ClinkerWorks {
         }
 
         int believed(int oxide) {
-            if (oxide < 0 || oxide >= OXIDES) {
+            if (!isIndex(oxide, OXIDES)) {
                 return 0;
             }
             return known ? oxides[oxide] : BELIEVED[oxide];
@@ -646,7 +657,9 @@ public final class ClinkerWorks {
         void takeShares(int[] partsOfBlocks) {
             int kept = 0;
             for (int layer = 0; layer < layers; layer++) {
-                partsOfBlocks[blockOf[layer]] += shares[layer];
+                if (isIndex(blockOf[layer], partsOfBlocks.length)) {
+                    partsOfBlocks[blockOf[layer]] += shares[layer];
+                }
                 int left = parts[layer] - shares[layer];
                 if (left > 0) {
                     blockOf[kept] = blockOf[layer];
@@ -735,25 +748,17 @@ public final class ClinkerWorks {
         int belite = 0;
         int alite = 0;
 
-        void clear() {
-            present = false;
-            mix.clear();
+        void begin(Mix mixed) {
+            present = true;
+            mix.copyFrom(mixed);
             for (int block = 0; block < MOST_BLOCKS; block++) {
                 partsOfBlocks[block] = 0;
             }
-            raw = 0;
+            raw = mix.amounts[LIME];
             free = 0;
-            sand = 0;
+            sand = mix.amounts[SILICA];
             belite = 0;
             alite = 0;
-        }
-
-        void begin(Mix mixed) {
-            clear();
-            present = true;
-            mix.copyFrom(mixed);
-            raw = mix.amounts[LIME];
-            sand = mix.amounts[SILICA];
         }
 
         void copyFrom(Charge other) {
@@ -892,9 +897,10 @@ public final class ClinkerWorks {
                 cells[cell] = cells[cell - 1];
             }
             cells[0] = spare;
-            spare.clear();
             if (waits > 0) {
                 takeWaiting(spare);
+            } else {
+                spare.present = false;
             }
             return out.present;
         }
@@ -906,7 +912,6 @@ public final class ClinkerWorks {
                 waiting[place - 1] = waiting[place];
             }
             waiting[MOST_WAITING - 1] = first;
-            first.clear();
             waits--;
         }
 
@@ -951,7 +956,7 @@ public final class ClinkerWorks {
         }
 
         boolean isFound(int age) {
-            return age >= 0 && age < AGES && found[age] != NONE;
+            return isIndex(age, AGES) && found[age] != NONE;
         }
 
         void setGround(int fine, int gyps, int into) {
@@ -967,7 +972,7 @@ public final class ClinkerWorks {
         }
 
         int strength(int age) {
-            if (age < 0 || age >= AGES || sacksAsGround <= 0) {
+            if (!isIndex(age, AGES) || sacksAsGround <= 0) {
                 return 0;
             }
             int grains = ALITE_COUNTS[age] * burnt.alite + BELITE_COUNTS[age] * burnt.belite;
@@ -986,7 +991,7 @@ public final class ClinkerWorks {
         boolean shut = false;
 
         int lotAt(int k) {
-            return k >= 0 && k < count ? lots[k] : NONE;
+            return isIndex(k, count) ? lots[k] : NONE;
         }
 
         void addLot(int lot) {
@@ -1017,7 +1022,7 @@ public final class ClinkerWorks {
         int standard = 6;
 
         void add(int strength) {
-            if (count == SIZE) {
+            if (count >= SIZE) {
                 for (int i = 1; i < SIZE; i++) {
                     strengths[i - 1] = strengths[i];
                 }

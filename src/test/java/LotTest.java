@@ -7,6 +7,7 @@ public final class LotTest {
         grindingRefusesWhatIsWrong();
         noSacksAreOneSack();
         sellingTakesFromTheFirst();
+        oneCallSellsAllLots();
         sellingRefusesWhatIsWrong();
         strengthByHand();
         strengthByGypsum();
@@ -107,6 +108,16 @@ public final class LotTest {
         checks.same("the other SILO", works.sell(1, 1), 0);
         checks.same("MONEY", works.many(13), 56);
         checks.same("FOUND as it is sold out", works.cube(1, 0), 12);
+    }
+
+    private static void oneCallSellsAllLots() {
+        ClinkerWorks works = coldLots(1, 2, 3, 4, 5, 6, 7, 8, 9, 8, 7, 6);
+        for (int lot = 11; lot >= 0; lot--) {
+            works.grind(lot, 6, 2, 1);
+        }
+        checks.same("the twelfth one", works.row(1, 11), 0);
+        checks.same("all of twelve LOTS", works.sell(1, 999), 4 * 66);
+        checks.same("the SILO is empty", works.row(1, 0), -1);
     }
 
     private static void sellingRefusesWhatIsWrong() {
@@ -268,7 +279,7 @@ public final class LotTest {
 
     /** Twelve LOTS of 3 ALITE by 12 SACKS, so 10 at the AGE 2, less 3 for each that GYPSUM is off. */
     private static ClinkerWorks burntLots() {
-        int[] gypsum = {2, 2, 2, 2, 2, 5, 3, 0, 2, 1, 6, 2};
+        int[] gypsum = {5, 2, 2, 2, 2, 2, 2, 3, 0, 1, 2, 6};
         ClinkerWorks works = new ClinkerWorks();
         works.block(200, 9, 3, 0, 0);
         works.blast(0, 30);
@@ -285,16 +296,17 @@ public final class LotTest {
 
     private static void claimsByTheWindow() {
         ClinkerWorks works = burntLots();
-        int[] due = {10, 10, 10, 10, 10, 1, 7, 4, 10, 7, 0, 10};
-        int[] claims = {0, 0, 0, 0, 0, 1, 2, 3, 4, 5, 6, 7};
+        int[] due = {1, 10, 10, 10, 10, 10, 10, 7, 4, 7, 10, 0};
+        int[] claims = {1, 2, 3, 4, 5, 6, 6, 6, 6, 6, 6, 7};
         for (int lot = 0; lot < 12; lot++) {
+            boolean claim = lot < 6 || lot == 11;
             checks.same("FOUND of the LOT " + lot, works.cube(lot, 2), due[lot]);
             checks.same("CLAIMS by the LOT " + lot, works.many(14), claims[lot]);
-            checks.yes("CONFORM", works.isConform() == lot < 5);
-            checks.same("SHUT by the LOT " + lot, works.many(16), lot < 5 ? 0 : lot % 2 + 1);
+            checks.yes("CONFORM", works.isConform() != claim);
+            checks.same("SHUT by the LOT " + lot, works.many(16), claim ? lot % 2 + 1 : 0);
             works.open(lot % 2);
         }
-        // 7, 4, 10, 7, 0, 10 have 38 by 6; the least is no less than 4 less 4.
+        // 10, 7, 4, 7, 10, 0 have 38 by 6; the least is no less than 4 less 4.
         works.standard(4);
         checks.yes("CONFORM by 4", works.isConform());
         works.standard(5);
