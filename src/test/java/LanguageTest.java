@@ -9,7 +9,10 @@ import java.util.TreeSet;
 import java.util.regex.Matcher;
 import java.util.regex.Pattern;
 
-/** What of LANGUAGE.md can be seen from the text of the class and from its members; run from the project's folder. */
+/**
+ * What of LANGUAGE.md can be seen from the text of the class and from its members; run from the project's folder.
+ * It bars some things that the rules allow, as the class does without them (null, while, texts, catch).
+ */
 public final class LanguageTest {
     private static final Path SOURCE = Path.of("src/main/java/ClinkerWorks.java");
     private static final String[] BARRED = {"->", "::", "\\bimport\\b", "\\bpackage\\b", "\\bcatch\\b", "\\bfinally\\b",
