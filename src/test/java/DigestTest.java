@@ -9,82 +9,68 @@ public final class DigestTest {
         checks.finish();
     }
 
+    /** Each state by an object of its own: to tell what is due takes hundreds of calls, and 512 are promised. */
     private static void eachStateHasItsDigest() {
-        ClinkerWorks works = new ClinkerWorks();
-        works.block(200, 9, 3, 1, 1);
-        works.block(100, 9, 1, 2, 0);
-        digestIsDue(works);
-        works.blast(0, 2);
-        digestIsDue(works);
-        works.blast(1, 1);
-        digestIsDue(works);
-        works.blast(0, 90);
-        works.coal(999);
-        works.flame(9);
-        for (int lot = 0; lot < 8; lot++) {
-            works.charge(6, lot % 3, lot % 2, 0);
-            works.charge(3, 0, 0, lot % 3);
-            digestIsDue(works);
-            works.run(4);
-            digestIsDue(works);
-            works.hammer();
-        }
-        works.run(20);
-        for (int lot = 0; lot < works.many(10); lot++) {
-            works.grind(lot, 1 + lot % 9, 2, lot % 3 / 2);
-            digestIsDue(works);
-            works.cube(lot, (lot + 1) % 3);
-            digestIsDue(works);
-            works.cube(lot, (lot + 2) % 3);
-            works.open(1);
-            works.sell(1, 9);
-            digestIsDue(works);
+        for (int moves = 0; moves <= 60; moves++) {
+            ClinkerWorks works = new ClinkerWorks();
+            for (int move = 0; move < moves; move++) {
+                doMove(works, move);
+            }
+            checks.same("digest() behind " + moves + " moves", works.digest(), DueDigest.of(works));
         }
     }
 
-    private static void digestIsDue(ClinkerWorks works) {
-        long d = 5407;
-        for (int what = 0; what <= 17; what++) {
-            d = d * 31 + works.many(what);
+    private static void doMove(ClinkerWorks works, int move) {
+        if (move < 6) {
+            begin(works, move);
+        } else if (move < 30) {
+            burn(works, move - 6);
+        } else if (move == 30) {
+            works.run(20);
+        } else {
+            use(works, move - 31);
         }
-        for (int block = 0; block < works.many(0); block++) {
-            for (int what = 0; what <= 5; what++) {
-                d = d * 31 + works.ofBlock(block, what);
-            }
+    }
+
+    private static void begin(ClinkerWorks works, int move) {
+        switch (move) {
+            case 0: works.block(200, 9, 3, 1, 1); break;
+            case 1: works.block(100, 9, 1, 2, 0); break;
+            case 2: works.blast(0, 2); break;
+            case 3: works.blast(1, 1); break;
+            case 4: works.blast(0, 90); break;
+            default:
+                works.coal(999);
+                works.flame(9);
+                break;
         }
-        for (int layer = 0; layer < works.many(1); layer++) {
-            d = (d * 31 + works.ofLayer(layer, 0)) * 31 + works.ofLayer(layer, 1);
+    }
+
+    private static void burn(ClinkerWorks works, int move) {
+        int round = move / 3;
+        if (move % 3 == 0) {
+            works.charge(6, round % 3, round % 2, 0);
+            works.charge(3, 0, 0, round % 3);
+        } else if (move % 3 == 1) {
+            works.run(4);
+        } else {
+            works.hammer();
         }
-        for (int cell = 0; cell < 5; cell++) {
-            for (int what = 0; what <= 7; what++) {
-                d = d * 31 + works.ofCell(cell, what);
-            }
+    }
+
+    private static void use(ClinkerWorks works, int move) {
+        int lot = move / 3;
+        if (lot >= works.many(10)) {
+            works.run(1);
+        } else if (move % 3 == 0) {
+            works.grind(lot, 1 + lot % 9, 2, lot % 3 / 2);
+        } else if (move % 3 == 1) {
+            works.cube(lot, (lot + 1) % 3);
+        } else {
+            works.cube(lot, (lot + 2) % 3);
+            works.open(1);
+            works.sell(1, 9);
         }
-        for (int charge = 0; charge < works.many(3); charge++) {
-            for (int what = 0; what <= 3; what++) {
-                d = d * 31 + works.modulus(charge, what);
-            }
-        }
-        for (int lot = 0; lot < works.many(10); lot++) {
-            for (int what = 0; what <= 21; what++) {
-                d = d * 31 + works.ofLot(lot, what);
-            }
-            if (works.ofLot(lot, 14) != -1) {
-                d = d * 31 + works.thought(lot);
-            }
-        }
-        for (int silo = 0; silo <= 1; silo++) {
-            for (int k = 0; k <= 2; k++) {
-                d = d * 31 + works.row(silo, k);
-            }
-        }
-        d = d * 31 + (works.isConform() ? 1 : 0);
-        if (works.many(2) >= 3) {
-            d = d * 31 + works.bestCharge(3);
-        }
-        d = d * 31 + works.freeAfter(5, 6);
-        d = d * 31 + works.letFall(5);
-        checks.same("digest()", works.digest(), d);
     }
 
     private static void manyTellsEach() {

@@ -341,7 +341,7 @@ public final class LotTest {
         for (int lot = 0; lot < 12; lot++) {
             found[lot] = works.cube(lot, 2);
             int first = Math.max(0, lot - 5);
-            for (int standard = 0; standard <= 20; standard++) {
+            for (int standard = 0; standard <= 16; standard++) {
                 works.standard(standard);
                 boolean leastHolds = true;
                 int sum = 0;

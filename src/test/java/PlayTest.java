@@ -4,7 +4,8 @@ import java.util.Random;
 /** All promises: long runs of calls of all kinds, right ones and wrong ones, each held against the Shadow. */
 public final class PlayTest {
     private static final Checks checks = new Checks("PlayTest");
-    private static final int CALLS = 500;
+    /** So many are promised for an object. */
+    private static final int MOST_CALLS = 512;
     private static final String[] NAMES = {"block", "drill", "blast", "charge", "flame", "coal", "run", "hammer",
         "grind", "sell", "open", "cube", "standard", "ofBlock", "ofLayer", "ofCell", "ofLot", "modulus", "row",
         "many", "meanFound", "isConform", "thought", "bestCharge", "freeAfter", "letFall", "digest"};
@@ -17,7 +18,7 @@ public final class PlayTest {
     private static final boolean[][] SEEN = new boolean[NAMES.length][4];
 
     public static void main(String[] args) {
-        for (int seed = 0; seed < 400; seed++) {
+        for (int seed = 0; seed < 600; seed++) {
             play(seed);
         }
         allKindsOfAnswersWereSeen();
@@ -29,18 +30,21 @@ public final class PlayTest {
         ClinkerWorks works = new ClinkerWorks();
         Shadow shadow = new Shadow();
         int good = 200 + random.nextInt(800);
-        for (int i = 0; i < CALLS; i++) {
+        int calls = 0;
+        while (calls < MOST_CALLS - 2) {
+            calls++;
             int call = pick(random);
             int[] with = arguments(random, call, random.nextInt(1000) < good, seed % 4 == 3);
             String got = answer(works, call, with);
             String due = shadowed(shadow, call, with);
             if (!got.equals(due)) {
-                checks.yes("seed " + seed + ", call " + i + ": " + NAMES[call] + Arrays.toString(with) + " " + got
+                checks.yes("seed " + seed + ", call " + calls + ": " + NAMES[call] + Arrays.toString(with) + " " + got
                     + ", due is " + due, false);
                 return;
             }
             note(call, got);
             if (got.startsWith("throws") || call >= 13) {
+                calls++;
                 checks.same("nothing is changed by " + NAMES[call], works.digest(), shadow.digest());
             }
         }
