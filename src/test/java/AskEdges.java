@@ -425,6 +425,9 @@ final class AskEdges {
         edges.edge("NONE without one", checks -> {
             checks.same("no LIME", best(0, 9, 9, 9), -1);
             checks.same("nothing at all", best(0, 0, 0, 0), -1);
+            checks.same("a PART of the BIN 1 too much as it is", best(36, 16, 0, 2), -1);
+            checks.same("a PART of the BIN 2 too much as it is", best(30, 1, 8, 3), -1);
+            checks.same("a PART of the BIN 3 too much as it is", best(30, 0, 1, 11), -1);
             ClinkerWorks works = Fixtures.pile(Fixtures.stone(9, 9, 0, 0, 0));
             checks.same("too little LIME for additions", works.bestCharge(1), -1);
             checks.same("with additions", works.bestCharge(9), 211);
@@ -529,6 +532,7 @@ final class AskEdges {
                 for (int steps = 1; steps <= 12; steps++) {
                     checks.same("letFall(" + steps + ")", works.letFall(steps), steps < falls ? -1 : 0);
                 }
+                checks.same("a STEP too few, once more", works.letFall(falls - 1), -1);
                 checks.same("nothing FELL by that", works.many(8), 0);
                 checks.same("the RING stays", works.many(7), 6);
                 checks.same("the FLAME stays", works.many(4), 9);
@@ -540,6 +544,20 @@ final class AskEdges {
                 }
                 checks.same("a hot kiln without a RING", noCoal.letFall(12), -1);
             });
+        edges.edge("NONE without one (or without a RING)", checks -> {
+            ClinkerWorks again = Fixtures.withRing(2);
+            checks.same("the first RING", again.letFall(12), 0);
+            again.flame(0);
+            again.run(12);
+            checks.same("it FELL", again.many(8), 1);
+            checks.same("without a RING", again.letFall(12), -1);
+            again.flame(9);
+            again.charge(1, 0, 0, 0);
+            again.run(4);
+            checks.same("the second RING", again.many(7), 1);
+            checks.same("within one STEP", again.letFall(1), -1);
+            checks.same("within twelve", again.letFall(12), 0);
+        });
         edges.edge("(or without a RING)", checks -> {
             // One would grow by the next CHARGE, and FALL; but now there is none.
             checks.yes("it would FALL", stepsToFall(hammeredAheadOfACharge()) > 0);

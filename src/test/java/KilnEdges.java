@@ -304,6 +304,8 @@ final class KilnEdges {
             checks.same("MELT 6 at 8", Fixtures.inCellThree(0, 3, 3).many(7), 1);
             checks.same("MELT 6 of ALUMINA", Fixtures.inCellThree(0, 6, 0).many(7), 1);
             checks.same("MELT 6 of IRON", Fixtures.inCellThree(0, 0, 6).many(7), 1);
+            checks.same("MELT 7", Fixtures.inCellThree(0, 3, 4).many(7), 1);
+            checks.same("MELT 18", Fixtures.inCellThree(0, 9, 9).many(7), 1);
             checks.same("MELT 5 at 8", Fixtures.inCellThree(0, 3, 2).many(7), 0);
             checks.same("WARMTH 7", Fixtures.inCellThree(9, 3, 3).ofCell(3, 0), 7);
             checks.same("MELT 6 at 7", Fixtures.inCellThree(9, 3, 3).many(7), 0);

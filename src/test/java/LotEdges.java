@@ -117,6 +117,12 @@ final class LotEdges {
                     checks.same("sold " + sold[i] + ", row(1, " + lot + ")", works.row(1, lot), rows[i][lot]);
                 }
             }
+            ClinkerWorks twelve = Fixtures.coldLots(1, 1, 1, 1, 1, 1, 1, 1, 1, 1, 1, 2);
+            for (int lot = 0; lot < 12; lot++) {
+                twelve.grind(lot, 5, 2, 0);
+            }
+            checks.same("of twelve LOTS at once", twelve.sell(0, 12), 3 * 12);
+            checks.same("the last one has one left", twelve.row(0, 0), 11);
             ClinkerWorks empty = Fixtures.coldLots(2, 3);
             checks.same("of an empty SILO", empty.sell(0, 9), 0);
             empty.grind(0, 5, 2, 0);
@@ -161,6 +167,31 @@ final class LotEdges {
     }
 
     private static void strengthTerms(Edges edges) {
+        edges.edge("ALITE counts 2, 3 and 4, BELITE 0, 1 and 3", checks -> {
+            // 2 BELITE, 12 SACKS and a FINENESS of 9: 0, 20 and 60 by 12
+            ClinkerWorks works = Fixtures.heated(8, Fixtures.stone(1, 9, 3, 0, 0));
+            works.run(1);
+            checks.same("BELITE", works.ofLot(0, 7), 2);
+            checks.same("SACKS", works.grind(0, 9, 2, 0), 12);
+            int[] due = {18, 9 + 1, 5};
+            // 3 ALITE, 12 SACKS and a FINENESS of 5: 60, 90 and 120 by 12
+            ClinkerWorks alite = Fixtures.burntLots(2);
+            int[] dueOfAlite = {10 + 5, 5 + 7, 10};
+            for (int age = 0; age < 3; age++) {
+                checks.same("BELITE at the AGE " + age, works.cube(0, age), due[age]);
+                checks.same("ALITE at the AGE " + age, alite.cube(0, age), dueOfAlite[age]);
+            }
+        });
+        edges.edge("less 2 times FREE", checks -> {
+            int[] due = {18 - 6, 9 - 6, 0};
+            ClinkerWorks works = Fixtures.heated(7, Fixtures.stone(1, 9, 0, 0, 0));
+            works.run(1);
+            checks.same("FREE", works.ofLot(0, 5), 3);
+            works.grind(0, 9, 2, 0);
+            for (int age = 0; age < 3; age++) {
+                checks.same("at the AGE " + age, works.cube(0, age), due[age]);
+            }
+        });
         edges.edge("FINENESS more, times 2, 1, 0", checks -> {
             int[] least = {2, 1, 0};
             int[] most = {18, 9, 0};
@@ -228,6 +259,7 @@ final class LotEdges {
             checks.same("not by itself", works.thought(3), 8 - 4);
             checks.same("by the LOTS 2 and 3", works.thought(0), 2 - 7);
             checks.same("by all three others", works.thought(1), 4 - 6);
+            checks.same("by eleven others", thoughtOf(9, 4, 5, 4, 5, 4, 5, 4, 5, 4, 5, 4), 9 - 5);
         });
     }
 

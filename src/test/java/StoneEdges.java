@@ -226,7 +226,9 @@ final class StoneEdges {
             checks.refusesState("a fourth", works, () -> works.charge(1, 0, 0, 0));
             works.run(1);
             checks.same("the second one is the first now", works.modulus(0, 0), 30);
+            checks.same("the third one is the second", works.modulus(1, 0), 15);
             works.charge(1, 3, 0, 0);
+            checks.same("the third one stays the second", works.modulus(1, 0), 15);
             checks.same("the new one is the last", works.modulus(2, 0), 900 / (3 * 28));
         });
         edges.edge("Of the BLOCKS it has the PARTS that were CUT of each.", checks -> {
@@ -246,6 +248,15 @@ final class StoneEdges {
             for (int block = 0; block < 6; block++) {
                 checks.same("of the first, the BLOCK " + block, works.ofLot(0, 16 + block), due[0][block]);
                 checks.same("of the second, the BLOCK " + block, works.ofLot(1, 16 + block), due[1][block]);
+            }
+            for (int block = 0; block < 6; block++) {
+                works.blast(block, 1);
+                works.charge(1, 0, 0, 0);
+                works.run(6);
+                for (int other = 0; other < 6; other++) {
+                    checks.same("of the BLOCK " + block + " alone, the BLOCK " + other,
+                        works.ofLot(2 + block, 16 + other), other == block ? 1 : 0);
+                }
             }
         });
     }

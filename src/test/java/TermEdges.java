@@ -16,6 +16,7 @@ final class TermEdges {
         edges.of("5. Cubes, the standard");
         refusalsChangeNothing(edges);
         theFirstNamedIsThrown(edges);
+        nothingIsChangedByWhatWouldBe(edges);
         edges.of("Promise 1");
         aNewObject(edges);
     }
@@ -219,6 +220,7 @@ final class TermEdges {
         checks.refusesIndex("blast, 8 LAYERS", works, () -> works.blast(6, 1));
         checks.refusesIndex("grind, fineness 0", works, () -> works.grind(99, 0, 2, 0));
         checks.refusesIndex("grind, gypsum 10", works, () -> works.grind(3, 5, 10, 2));
+        checks.refusesIndex("grind, fineness 0", works, () -> works.grind(3, 0, 2, 2));
         checks.refusesIndex("grind, ground", works, () -> works.grind(0, 5, 2, 2));
         checks.refusesIndex("sell, sacks 0", works, () -> works.sell(2, 0));
         checks.refusesIndex("cube, age 3", works, () -> works.cube(99, 3));
@@ -231,6 +233,27 @@ final class TermEdges {
         checks.refusesIndex("ofLot", works, () -> works.ofLot(99, 22));
         checks.refusesIndex("modulus", works, () -> works.modulus(3, 4));
         checks.refusesIndex("row", works, () -> works.row(2, -1));
+    }
+
+    private static void nothingIsChangedByWhatWouldBe(Edges edges) {
+        edges.edge("---- what would be (nothing is changed).", checks -> {
+            ClinkerWorks asked = midway();
+            ClinkerWorks spared = midway();
+            for (int steps = 1; steps <= 12; steps++) {
+                asked.freeAfter(steps, steps % 10);
+                asked.letFall(steps);
+            }
+            for (int cut = 1; cut <= 9; cut++) {
+                asked.bestCharge(cut);
+            }
+            asked.thought(0);
+            asked.digest();
+            List<Long> due = lateAnswers(spared);
+            List<Long> got = lateAnswers(asked);
+            for (int i = 0; i < due.size(); i++) {
+                checks.same("the answer " + i + " behind all questions", got.get(i), due.get(i));
+            }
+        });
     }
 
     // ---- promise 1
