@@ -311,34 +311,18 @@ final class AskEdges {
     private static void theWindow(Edges edges) {
         edges.of("Promise 22");
         edges.edge("Returns the mean of the WINDOW, not rounded; 0 without any.", checks -> {
-            ClinkerWorks works = Fixtures.burntLots(2, 2, 3);
+            ClinkerWorks works = Fixtures.burntLots(2, 3, 9, 2, 2, 5, 9);
             checks.same("without any", works.meanFound(), 0.0);
-            double[] due = {10, 10, 27 / 3.0};
-            for (int lot = 0; lot < 3; lot++) {
+            // FOUND are 10, 7, 0, 10, 10, 1 and 0; the seventh pushes the first out.
+            double[] due = {10, 8.5, 17 / 3.0, 27 / 4.0, 37 / 5.0, 38 / 6.0, 28 / 6.0};
+            for (int lot = 0; lot < 7; lot++) {
                 works.cube(lot, 2);
                 checks.same("behind the LOT " + lot, works.meanFound(), due[lot]);
             }
-            ClinkerWorks third = Fixtures.burntLots(2, 2, 5);
-            for (int lot = 0; lot < 3; lot++) {
-                third.cube(lot, 2);
-            }
-            checks.same("21 by 3", third.meanFound(), 7.0);
-            ClinkerWorks uneven = Fixtures.burntLots(2, 3, 3);
-            uneven.cube(0, 2);
-            uneven.cube(1, 2);
-            checks.same("17 by 2", uneven.meanFound(), 8.5);
-            uneven.cube(2, 2);
-            checks.same("24 by 3", uneven.meanFound(), 8.0);
-            ClinkerWorks endless = Fixtures.burntLots(2, 2, 4, 2, 2, 2);
-            for (int lot = 0; lot < 6; lot++) {
-                endless.cube(lot, 2);
-            }
-            checks.same("54 by 6", endless.meanFound(), 9.0);
-            ClinkerWorks odd = Fixtures.burntLots(2, 2, 2, 2, 2, 5);
-            for (int lot = 0; lot < 6; lot++) {
-                odd.cube(lot, 2);
-            }
-            checks.same("51 by 6", odd.meanFound(), 8.5);
+            ClinkerWorks none = Fixtures.coldLots(1);
+            none.grind(0, 5, 2, 0);
+            none.cube(0, 2);
+            checks.same("of 0 alone", none.meanFound(), 0.0);
         });
         edges.of("Promise 23");
         edges.edge("Returns whether it is CONFORM.", checks -> {

@@ -73,7 +73,7 @@ final class TermEdges {
         }
         for (int i = 0; i < 8; i++) {
             works.charge(4 + i % 3, i % 2, 0, i % 3);
-            works.run(i < 5 ? 1 : 0 + 1);
+            works.run(1);
         }
         for (int i = 0; i < 3; i++) {
             works.charge(2 + i, 0, i, 0);
