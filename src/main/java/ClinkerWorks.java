@@ -292,7 +292,9 @@ public final class ClinkerWorks {
 
     public int row(int silo, int k) throws IndexOutOfBoundsException, IllegalArgumentException {
         needIndex(silo, SILOS);
-        needArgument(k, 0, Integer.MAX_VALUE);
+        if (k < 0) {
+            throw new IllegalArgumentException("k is below 0");
+        }
         return silos[silo].lotAt(k);
     }
 
@@ -896,23 +898,23 @@ public final class ClinkerWorks {
             for (int cell = LAST; cell > 0; cell--) {
                 cells[cell] = cells[cell - 1];
             }
-            cells[0] = spare;
-            if (waits > 0) {
-                takeWaiting(spare);
-            } else {
-                spare.present = false;
-            }
+            cells[0] = nextWaiting(spare);
             return out.present;
         }
 
-        private void takeWaiting(Charge into) {
+        /** Answers what comes into the first CELL; the spare object takes a place that gets free by that. */
+        private Charge nextWaiting(Charge spare) {
+            if (waits == 0) {
+                spare.present = false;
+                return spare;
+            }
             Charge first = waiting[0];
-            into.copyFrom(first);
             for (int place = 1; place < MOST_WAITING; place++) {
                 waiting[place - 1] = waiting[place];
             }
-            waiting[MOST_WAITING - 1] = first;
+            waiting[MOST_WAITING - 1] = spare;
             waits--;
+            return first;
         }
 
         private void warmCells(int burns) {

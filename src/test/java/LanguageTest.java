@@ -17,6 +17,7 @@ public final class LanguageTest {
     private static final Path SOURCE = Path.of("src/main/java/ClinkerWorks.java");
     private static final String[] BARRED = {"->", "::", "\\bimport\\b", "\\bpackage\\b", "\\bcatch\\b", "\\bfinally\\b",
         "\\bsynchronized\\b", "\\bassert\\b", "\\bSystem\\.(?!arraycopy)", "\\bMath\\.\\w+Exact\\b", "\\bString\\b",
+        "\\b(Integer|Long|Short|Byte|Character|Boolean|Double|Float)\\b", "\\bMath\\.(?!(min|max|abs|floorDiv)\\()",
         "\\bObject\\b", "\\bprotected\\b", "\\bnull\\b", "\\bwhile\\b", "\\b(var|volatile|transient|native)\\b"};
     private static final int MOST_LINES = 60;
 
